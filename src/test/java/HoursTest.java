@@ -2,6 +2,7 @@
 public final class HoursTest {
     public static void main(String[] args) {
         going();
+        lastHour();
         inTheirOrder();
         nows();
         louds();
@@ -49,6 +50,22 @@ public final class HoursTest {
         }
         Checks.due("hours add", x.now(0), 98);
         Checks.due("it fled till it fears no more", x.of(1, 1), 5);
+    }
+
+    /** No run of 512 calls comes so far; a longer one shows what would be there. */
+    private static void lastHour() {
+        WildBells x = Checks.woods("bell");
+        for (int i = 0; i < 4166; i++) {
+            x.go(24);
+        }
+        Checks.due("hour", x.now(0), 99984);
+        Checks.due("go too far", x.go(16), Checks.STATE);
+        Checks.due("thunder too far", x.thunder(16), Checks.STATE);
+        Checks.due("beyond first", x.go(25), Checks.BEYOND);
+        Checks.due("no hour went", x.now(0), 99984);
+        Checks.due("thunder to the last", x.thunder(15), 0);
+        Checks.due("the last", x.now(0), 99999);
+        Checks.due("go one more", x.go(1), Checks.STATE);
     }
 
     private static void inTheirOrder() {
