@@ -412,7 +412,7 @@ public final class WildBells {
         // A greater catch never leaves a greater stock, and with none the stock is no less.
         int lasting = 0;
         int tooMuch = MOST_CATCH + 1;
-        while (tooMuch - lasting > 1) {
+        for (int step = 0; step < MOST_CATCH && tooMuch - lasting > 1; step++) {
             int middle = (lasting + tooMuch) / 2;
             if (stockBehind(n, middle, y) >= n) {
                 lasting = middle;
