@@ -15,6 +15,8 @@ public final class SoundsTest {
         Checks.due("no ear: anywhere", x.stands(0, 10), 64);
         Checks.sheet(x, 0, 8, 99);
         Checks.due("a last one alone doesn't count", x.stands(0, 10), 64);
+        Checks.sheet(x, 0, 8, 27);
+        Checks.due("a last ear alone doesn't count", x.stands(0, 10), 64);
         Checks.sheet(x, 0, 8, 27, 10);
         Checks.due("at the ear", x.stands(0, 10), 1);
         Checks.sheet(x, 0, 8, 27, 7);

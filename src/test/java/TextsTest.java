@@ -164,6 +164,7 @@ public final class TextsTest {
         fault("5", 0);
         fault("  at 5", 2);
         fault("-", 0);
+        fault("bellz", 0);
         fault("bell at", 7);
         fault("bell at ", 8);
         fault("bell at 64", 8);

@@ -188,6 +188,9 @@ public final class WoodsTest {
         Checks.due("fear at most", x.worth(0, 63), 59);
         x.hunter(0, 62);
         Checks.due("the nearest hunter", x.worth(0, 63), 19);
+        x.hunter(0, 0);
+        Checks.due("a hunter at cell 0", x.worth(0, 1), 19);
+        x.thick(0, 0);
         x.hunter(0, -1);
         x.hunter(2, -1);
         Checks.due("hunters gone", x.worth(0, 27), 59);
@@ -263,8 +266,12 @@ public final class WoodsTest {
             x.thick(corners[i], 1);
             Checks.due("of a corner", x.of(0, 5), first[i]);
         }
-        x.thick(55, 9);
-        x.thick(62, 9);
+        x = Checks.woods("tame at 8; tame at 1");
+        Checks.due("up to cell 0", x.of(0, 5), 0);
+        Checks.due("left to cell 0", x.of(1, 5), 0);
+        Checks.due("no cell left of the first column", Checks.woods("bell at 16; hunter 0 at 16; fear 9").of(0, 5), 8);
+        Checks.due("no cell right of the last", Checks.woods("bell at 23; hunter 0 at 23; fear 9").of(0, 5), 15);
+        x = Checks.woods("bell at 63; thick 63 1; thick 55 9; thick 62 9");
         Checks.due("no cell behind the edge", x.of(0, 5), 63);
     }
 }
