@@ -35,7 +35,44 @@ public final class RandomRunsTest {
                 break;
             }
         }
+        procession(methods);
         Checks.end();
+    }
+
+    /** The woods of Checks.procession, in which bells go on for longer than one looks ahead. */
+    private static void procession(List<Method> methods) throws ReflectiveOperationException {
+        WildBells x = Checks.procession(0);
+        Model model = new Model();
+        for (int c = 0; c < 64; c++) {
+            model.answer("thick", new int[] {c, x.cell(c, 1)});
+        }
+        for (int b = 0; b < 8; b++) {
+            model.answer("bell", new int[] {x.of(b, 0), x.of(b, 1)});
+        }
+        model.answer("net", new int[] {2, 1});
+        model.answer("fear", new int[] {0});
+        for (int h = 0; h <= 80; h++) {
+            both(methods, x, model, "still");
+            both(methods, x, model, "caught", 60);
+            for (int b = 0; b < 8; b++) {
+                both(methods, x, model, "when", b);
+                both(methods, x, model, "ahead", b, 60);
+            }
+            if (h % 10 < 2) {
+                both(methods, x, model, "best", 20);
+                for (int b = 0; b < 8; b++) {
+                    both(methods, x, model, "drive", 0, b);
+                    both(methods, x, model, "netFor", b);
+                    both(methods, x, model, "kindFor", b);
+                }
+            }
+            both(methods, x, model, "go", 1);
+        }
+    }
+
+    private static void both(List<Method> methods, WildBells x, Model model, String name, int... a)
+        throws ReflectiveOperationException {
+        Checks.due("procession: " + name + Arrays.toString(a), call(named(methods, name), x, a), model.answer(name, a));
     }
 
     /** Woods full of bells, thickets and hunters, and what will be there. */
