@@ -35,9 +35,12 @@ public final class RefusedTest {
     }
 
     /** Woods, spots, sheets, a tape and an image of which each part is unlike a new object's. */
-    private static WildBells rich() {
-        WildBells x = Checks.woods("bell at 9 note 3 weight 20;herd at 5;tenor at 27 note 2;net 63;net 62;thick 5 4;"
-            + "hunter 1 at 0;fear 4");
+    static WildBells rich() {
+        return enriched(new WildBells());
+    }
+
+    static WildBells enriched(WildBells x) {
+        Checks.text(x, "bell at 9 note 3 weight 20;herd at 5;tenor at 27 note 2;net 63;net 62;thick 5 4;hunter 1 at 0;fear 4");
         x.hold(0, 1);
         x.seed(77);
         Checks.sheet(x, 0, 8, 5, 10, 9, 3, 11);
